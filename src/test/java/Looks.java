@@ -33,6 +33,17 @@ final class Looks {
         long answer();
     }
 
+    /** Runs each test; one that ends by what nobody awaits is told with its sentence. */
+    static void tests(Runnable... tests) {
+        for (Runnable test : tests) {
+            try {
+                test.run();
+            } catch (RuntimeException e) {
+                tell("a call threw " + e);
+            }
+        }
+    }
+
     /** Tells which of the document's sentences the answers that follow belong to. */
     static void sentence(String words) {
         sentence = words;

@@ -5,53 +5,55 @@ public final class PromisesEdgesTest {
     private static final int MAX = Looks.MAX;
 
     public static void main(String[] args) {
-        promise1AsTold();
-        promise2PutPlaces();
-        promise2PutCodes();
-        promise2PutRegisters();
-        promise2PutAnyB();
-        promise2PutOverAnother();
-        promise3UnitsKinds();
-        promise3UnitsMany();
-        promise4LatencyKinds();
-        promise4LatencyCycles();
-        promise5Width();
-        promise6SetRegisters();
-        promise6SetMemory();
-        promise6SetWhat();
-        promise6SetAnyValue();
-        promise7RunLeast();
-        promise7RunMost();
-        promise7RunUntilOver();
-        promise7RunInParts();
-        promise8Again();
-        promise8AgainAtCycle0();
-        promise8AgainKeepsWhatWasSet();
-        promise9Clear();
-        promise9ClearThenSet();
-        promise10Cycle();
-        promise10Over();
-        promise10IssuedAndWritten();
-        promise10NotWritten();
-        promise10Stalls();
-        promise10NextPlace();
-        promise10NextPlaceHidden();
-        promise10OtherWhat();
-        promise11Register();
-        promise12Memory();
-        promise13PlainRegisters();
-        promise13PlainMemory();
-        promise13PlainWhat();
-        promise14UnitStates();
-        promise14UnitThere();
-        promise14UnitFree();
-        promise14UnitWhat();
-        promise15Pending();
-        promise15PendingRegisters();
-        promise16LatestFewer();
-        promise16LatestMost();
-        promise16LatestToCome();
-        promise16LatestWhat();
+        Looks.tests(
+                PromisesEdgesTest::promise1AsTold,
+                PromisesEdgesTest::promise2PutPlaces,
+                PromisesEdgesTest::promise2PutCodes,
+                PromisesEdgesTest::promise2PutRegisters,
+                PromisesEdgesTest::promise2PutAnyB,
+                PromisesEdgesTest::promise2PutOverAnother,
+                PromisesEdgesTest::promise3UnitsKinds,
+                PromisesEdgesTest::promise3UnitsMany,
+                PromisesEdgesTest::promise4LatencyKinds,
+                PromisesEdgesTest::promise4LatencyCycles,
+                PromisesEdgesTest::promise5Width,
+                PromisesEdgesTest::promise6SetRegisters,
+                PromisesEdgesTest::promise6SetMemory,
+                PromisesEdgesTest::promise6SetWhat,
+                PromisesEdgesTest::promise6SetAnyValue,
+                PromisesEdgesTest::promise7RunLeast,
+                PromisesEdgesTest::promise7RunMost,
+                PromisesEdgesTest::promise7RunUntilOver,
+                PromisesEdgesTest::promise7RunInParts,
+                PromisesEdgesTest::promise8Again,
+                PromisesEdgesTest::promise8AgainAtCycle0,
+                PromisesEdgesTest::promise8AgainKeepsWhatWasSet,
+                PromisesEdgesTest::promise9Clear,
+                PromisesEdgesTest::promise9ClearThenSet,
+                PromisesEdgesTest::promise10Cycle,
+                PromisesEdgesTest::promise10Over,
+                PromisesEdgesTest::promise10IssuedAndWritten,
+                PromisesEdgesTest::promise10NotWritten,
+                PromisesEdgesTest::promise10Stalls,
+                PromisesEdgesTest::promise10NextPlace,
+                PromisesEdgesTest::promise10NextPlaceHidden,
+                PromisesEdgesTest::promise10OtherWhat,
+                PromisesEdgesTest::promise11Register,
+                PromisesEdgesTest::promise12Memory,
+                PromisesEdgesTest::promise13PlainRegisters,
+                PromisesEdgesTest::promise13PlainMemory,
+                PromisesEdgesTest::promise13PlainWhat,
+                PromisesEdgesTest::promise14UnitStates,
+                PromisesEdgesTest::promise14UnitDoneWhileItWaits,
+                PromisesEdgesTest::promise14UnitThere,
+                PromisesEdgesTest::promise14UnitFree,
+                PromisesEdgesTest::promise14UnitWhat,
+                PromisesEdgesTest::promise15Pending,
+                PromisesEdgesTest::promise15PendingRegisters,
+                PromisesEdgesTest::promise16LatestFewer,
+                PromisesEdgesTest::promise16LatestMost,
+                PromisesEdgesTest::promise16LatestToCome,
+                PromisesEdgesTest::promise16LatestWhat);
         Looks.end();
     }
 
@@ -330,6 +332,8 @@ public final class PromisesEdgesTest {
         x.width(3);
         x.units(0, 2);
         x.set(0, 1, 3);
+        x.set(1, 0, 70);
+        x.set(1, 6, 76);
         x.put(0, 12, 2, 1, 3);
         x.put(1, 7, 1, 1, -1);
         x.put(2, 15, 1, 1, 4);
@@ -355,8 +359,8 @@ public final class PromisesEdgesTest {
 
     private static void promise8Again() {
         Looks.sentence("again: CYCLE 0 again, what was set as it was set");
-        int[] cycles = {1, 2, 10, 33, 3000};
-        for (int n : cycles) {
+        for (int cycles = 1; cycles <= 100; cycles++) {
+            int n = cycles;
             Looks.dueAlike("behind run(" + n + ")", Looks.all(LOOP, x -> x.run(n), x -> x.again()),
                     Looks.all(LOOP));
             Looks.dueAlike("and run(25)",
@@ -390,10 +394,13 @@ public final class PromisesEdgesTest {
 
     private static void promise9Clear() {
         Looks.sentence("clear: CYCLE 0, all as it was made");
-        int[] cycles = {0, 1, 10, 33, 3000};
-        for (int n : cycles) {
+        Looks.Calls setMemory = x -> x.set(1, 0, 70);
+        for (int cycles = 0; cycles <= 100; cycles++) {
+            int n = cycles;
             Looks.dueAlike("behind run(" + n + ")", Looks.all(LOOP, x -> x.run(n), x -> x.clear()),
                     Looks.all());
+            Looks.dueAlike("and a set", Looks.all(LOOP, x -> x.run(n), x -> x.clear(), setMemory),
+                    Looks.all(setMemory));
             Looks.dueAlike("and again",
                     Looks.all(LOOP, x -> x.run(n), x -> x.clear(), x -> x.again()), Looks.all());
             Looks.dueAlike("and run(10)",
@@ -698,6 +705,22 @@ public final class PromisesEdgesTest {
                 y.run(1);
             }
         }
+    }
+
+    private static void promise14UnitDoneWhileItWaits() {
+        Looks.sentence("unit: 3 DONE (as long as it waits to be WRITTEN)");
+        ScoreMachine x = new ScoreMachine();
+        x.put(0, 12, 1, 9, 9);
+        x.put(1, 15, 3, 1, 0);
+        x.put(2, 6, 3, 0, 7);
+        x.run(5);
+        Looks.due("in cycle 5", x.unit(0, 0, 2), 2);
+        for (int cycle = 6; cycle <= 16; cycle++) {
+            x.run(1);
+            Looks.due("in cycle " + cycle, x.unit(0, 0, 2), 3);
+        }
+        x.run(1);
+        Looks.due("in the cycle of WRITTEN", x.unit(0, 0, 2), NONE);
     }
 
     private static void promise14UnitThere() {

@@ -56,18 +56,19 @@ public final class RefusedTest {
     };
 
     public static void main(String[] args) {
-        eachCallChangesSomethingIfTaken();
-        aheadOfTheRunAlone();
-        runOfZeroIsAheadOfTheRun();
-        wrongPuts();
-        wrongUnits();
-        wrongLatencies();
-        wrongWidths();
-        wrongSets();
-        wrongRuns();
-        wrongLooks();
-        wrongLooksAtOne();
-        rightCallsInTheRun();
+        Looks.tests(
+                RefusedTest::eachCallChangesSomethingIfTaken,
+                RefusedTest::aheadOfTheRunAlone,
+                RefusedTest::runOfZeroIsAheadOfTheRun,
+                RefusedTest::wrongPuts,
+                RefusedTest::wrongUnits,
+                RefusedTest::wrongLatencies,
+                RefusedTest::wrongWidths,
+                RefusedTest::wrongSets,
+                RefusedTest::wrongRuns,
+                RefusedTest::wrongLooks,
+                RefusedTest::wrongLooksAtOne,
+                RefusedTest::rightCallsInTheRun);
         Looks.end();
     }
 

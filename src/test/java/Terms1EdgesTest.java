@@ -8,40 +8,41 @@ public final class Terms1EdgesTest {
     private static final int[] WITH_B = {1, 2, 3, 4, 5, 8, 9, 10, 11, 12, 13};
 
     public static void main(String[] args) {
-        callsUpTo512();
-        registersAreZeroAtFirst();
-        registersAreLongs();
-        memoryIsZeroAtFirst();
-        memoryIsLongs();
-        everyPlaceHaltsAtFirst();
-        behind255ComesPlace0();
-        behind255ComesPlace0ForEachCode();
-        behind254ComesPlace255();
-        registerBGoesRound();
-        registerBGoesRoundForReading();
-        nIsBItself();
-        kindOfEachCode();
-        sumsGoRound();
-        productsGoRound();
-        bitsOfLongs();
-        shiftsBySixBits();
-        divisionsByZero();
-        divisionsGoRound();
-        loadByEightBits();
-        storeByEightBits();
-        goIfZero();
-        goIfBelowZero();
-        goAlways();
-        goByEightBits();
-        haltHasNoUnit();
-        readsByLetters();
-        writesByLetters();
-        unitsAtFirst();
-        unitsAtMost();
-        latenciesAtFirst();
-        latenciesAtBothEnds();
-        widthAtFirst();
-        widthAtBothEnds();
+        Looks.tests(
+                Terms1EdgesTest::callsUpTo512,
+                Terms1EdgesTest::registersAreZeroAtFirst,
+                Terms1EdgesTest::registersAreLongs,
+                Terms1EdgesTest::memoryIsZeroAtFirst,
+                Terms1EdgesTest::memoryIsLongs,
+                Terms1EdgesTest::everyPlaceHaltsAtFirst,
+                Terms1EdgesTest::behind255ComesPlace0,
+                Terms1EdgesTest::behind255ComesPlace0ForEachCode,
+                Terms1EdgesTest::behind254ComesPlace255,
+                Terms1EdgesTest::registerBGoesRound,
+                Terms1EdgesTest::registerBGoesRoundForReading,
+                Terms1EdgesTest::nIsBItself,
+                Terms1EdgesTest::kindOfEachCode,
+                Terms1EdgesTest::sumsGoRound,
+                Terms1EdgesTest::productsGoRound,
+                Terms1EdgesTest::bitsOfLongs,
+                Terms1EdgesTest::shiftsBySixBits,
+                Terms1EdgesTest::divisionsByZero,
+                Terms1EdgesTest::divisionsGoRound,
+                Terms1EdgesTest::loadByEightBits,
+                Terms1EdgesTest::storeByEightBits,
+                Terms1EdgesTest::goIfZero,
+                Terms1EdgesTest::goIfBelowZero,
+                Terms1EdgesTest::goAlways,
+                Terms1EdgesTest::goByEightBits,
+                Terms1EdgesTest::haltHasNoUnit,
+                Terms1EdgesTest::readsByLetters,
+                Terms1EdgesTest::writesByLetters,
+                Terms1EdgesTest::unitsAtFirst,
+                Terms1EdgesTest::unitsAtMost,
+                Terms1EdgesTest::latenciesAtFirst,
+                Terms1EdgesTest::latenciesAtBothEnds,
+                Terms1EdgesTest::widthAtFirst,
+                Terms1EdgesTest::widthAtBothEnds);
         Looks.end();
     }
 

@@ -4,48 +4,50 @@ public final class Terms2EdgesTest {
     private static final int[] CODE = {6, 8, 11, 12, 14, 18};
 
     public static void main(String[] args) {
-        firstCycleIsOne();
-        numbersFromZeroOn();
-        orderOfThePlainMachine();
-        issuedNotAheadOfTheOneBefore();
-        issuedFewerThanWidth();
-        issuedBehindBranch();
-        issuedBehindBranchNotTaken();
-        issuedBehindUnit();
-        issuedBehindLastOfThreeUnits();
-        issuedBehindSame();
-        issuedBehindSameOfAnother();
-        sameIsNotForThoseThatWriteNone();
-        hindrancesInOrder();
-        lowestUnitThatIsFree();
-        readRightBehindIssued();
-        readBehindWritten();
-        readBehindTheLaterOfTwo();
-        readDoesNotWaitForItself();
-        readDoesNotWaitForOneBehind();
-        doneByLatency();
-        writtenRightBehindDone();
-        writtenBehindReader();
-        writtenBehindReaderByEachLetter();
-        writtenDoesNotWaitForItself();
-        writtenDoesNotWaitForOneBehind();
-        thoseThatWriteNoneDoNotWait();
-        registerHasItsValueWithWritten();
-        memoryHasItsValueWithWritten();
-        readerHasWhatWasAhead();
-        haltAlone();
-        haltBehindTheLastWritten();
-        haltAtFullWidth();
-        haltBehindBranch();
-        cyclesDoNotGoOn();
-        stallsAheadOfFirstCycle();
-        stallsNotForHalt();
-        stallsNotAtFullWidth();
-        stallsOnceEachCycle();
-        stallsByFirstHindrance();
-        plainBeginsAlike();
-        plainAsManyAsIssued();
-        plainInTheEnd();
+        Looks.tests(
+                Terms2EdgesTest::firstCycleIsOne,
+                Terms2EdgesTest::numbersFromZeroOn,
+                Terms2EdgesTest::orderOfThePlainMachine,
+                Terms2EdgesTest::issuedNotAheadOfTheOneBefore,
+                Terms2EdgesTest::issuedFewerThanWidth,
+                Terms2EdgesTest::issuedBehindBranch,
+                Terms2EdgesTest::issuedBehindBranchNotTaken,
+                Terms2EdgesTest::issuedBehindUnit,
+                Terms2EdgesTest::issuedBehindLastOfThreeUnits,
+                Terms2EdgesTest::issuedBehindSame,
+                Terms2EdgesTest::issuedBehindSameOfAnother,
+                Terms2EdgesTest::sameIsNotForThoseThatWriteNone,
+                Terms2EdgesTest::hindrancesInOrder,
+                Terms2EdgesTest::lowestUnitThatIsFree,
+                Terms2EdgesTest::readRightBehindIssued,
+                Terms2EdgesTest::readBehindWritten,
+                Terms2EdgesTest::readBehindTheLaterOfTwo,
+                Terms2EdgesTest::readDoesNotWaitForItself,
+                Terms2EdgesTest::readDoesNotWaitForOneBehind,
+                Terms2EdgesTest::doneByLatency,
+                Terms2EdgesTest::writtenRightBehindDone,
+                Terms2EdgesTest::writtenBehindReader,
+                Terms2EdgesTest::writtenBehindReaderByEachLetter,
+                Terms2EdgesTest::writtenBehindTheLaterOfTwoReaders,
+                Terms2EdgesTest::writtenDoesNotWaitForItself,
+                Terms2EdgesTest::writtenDoesNotWaitForOneBehind,
+                Terms2EdgesTest::thoseThatWriteNoneDoNotWait,
+                Terms2EdgesTest::registerHasItsValueWithWritten,
+                Terms2EdgesTest::memoryHasItsValueWithWritten,
+                Terms2EdgesTest::readerHasWhatWasAhead,
+                Terms2EdgesTest::haltAlone,
+                Terms2EdgesTest::haltBehindTheLastWritten,
+                Terms2EdgesTest::haltAtFullWidth,
+                Terms2EdgesTest::haltBehindBranch,
+                Terms2EdgesTest::cyclesDoNotGoOn,
+                Terms2EdgesTest::stallsAheadOfFirstCycle,
+                Terms2EdgesTest::stallsNotForHalt,
+                Terms2EdgesTest::stallsNotAtFullWidth,
+                Terms2EdgesTest::stallsOnceEachCycle,
+                Terms2EdgesTest::stallsByFirstHindrance,
+                Terms2EdgesTest::plainBeginsAlike,
+                Terms2EdgesTest::plainAsManyAsIssued,
+                Terms2EdgesTest::plainInTheEnd);
         Looks.end();
     }
 
@@ -421,6 +423,21 @@ public final class Terms2EdgesTest {
             Looks.due("READ of the reader", Looks.told(x, 1, Looks.READ), 16);
             Looks.dueCycles(x, 2, 3, 4, 6, 17);
         }
+    }
+
+    /** The reader that comes later READS earlier. */
+    private static void writtenBehindTheLaterOfTwoReaders() {
+        Looks.sentence("each one ahead of it that READS a register which this one WRITES (of two)");
+        ScoreMachine x = new ScoreMachine();
+        x.units(0, 2);
+        x.put(0, 12, 1, 9, 9);
+        x.put(1, 1, 2, 1, 3);
+        x.put(2, 8, 4, 3, 3);
+        x.put(3, 6, 3, 0, 70);
+        x.run(3000);
+        Looks.due("READ of the first reader", Looks.told(x, 1, Looks.READ), 16);
+        Looks.due("READ of the second reader", Looks.told(x, 2, Looks.READ), 4);
+        Looks.dueCycles(x, 3, 4, 5, 7, 17);
     }
 
     private static void writtenDoesNotWaitForItself() {
